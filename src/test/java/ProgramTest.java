@@ -85,6 +85,12 @@ public final class ProgramTest {
         dueFault(0, new String(new byte[] {0}, StandardCharsets.ISO_8859_1), 1, 0);
         dueFault(0, new String(new byte[] {(byte) 255}, StandardCharsets.ISO_8859_1), 1, 0);
         dueFault(0, "fence;" + (char) 0xE1, 1, 6);
+        for (char one : "aAzZ".toCharArray()) {
+            dueFault(0, "wait" + one + ";", 1, 0);
+        }
+        for (char one : "`@{[/:0".toCharArray()) {
+            dueFault(0, "wait" + one + ";", 1, 4);
+        }
         for (int one = 0; one < 256; one++) {
             boolean blank = one == 32 || one == 10;
             if (blank) {
