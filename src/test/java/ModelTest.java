@@ -1,26 +1,11 @@
 import java.util.Random;
+import java.util.function.Supplier;
 
 /** Promises 8 to 13 on many pairs of programs, held against the plain model. */
 public final class ModelTest {
     private static final String[] NAMES = {"put", "get", "swap", "add", "fence", "wait", "set", "load", "if"};
     // By sort: w a word of the other host, o an own one, v a value, r a register, n a count.
     private static final String[] SHAPES = {"wv", "wr", "wvvr", "wvr", "", "", "ov", "or", "rvn"};
-
-    // With falls these have more than 12,000 states, 12,000, 12,000, 12,000, 12,001, 12,001, and some 9,000.
-    private static final String[][] LARGE = {
-        {"get 2 0;get 2 1;put 2 1;set 0 1;set 0 2;", "get 0 0;get 0 1;put 0 1;set 2 1;set 2 2;"},
-        {"set 1 3;set 1 2;add 3 2 0;put 3 0;get 2 0;swap 2 0 2 1;add 2 2 0;",
-            "swap 1 0 2 0;add 1 1 1;swap 0 0 1 0;add 0 1 0;get 0 1;set 3 2;swap 1 0 1 0;"},
-        {"add 2 1 0;get 2 1;put 3 0;swap 3 0 1 0;add 3 2 1;put 3 1;",
-            "get 1 1;load 3 0;set 2 2;get 0 1;get 1 0;add 0 3 1;put 1 3;"},
-        {"set 1 0;get 2 0;swap 3 0 1 0;put 2 2;get 2 1;get 2 0;add 3 2 1;",
-            "get 1 1;add 0 1 1;get 0 0;swap 0 0 2 0;add 1 3 1;set 2 1;"},
-        {"load 1 0;add 3 1 0;get 3 0;load 1 1;load 0 1;set 0 0;get 3 0;",
-            "get 0 0;add 0 3 1;set 3 3;put 1 2;put 0 2;load 3 0;"},
-        {"get 2 1;get 3 0;set 1 3;swap 2 0 1 1;put 3 3;get 2 1;",
-            "get 0 1;add 0 3 1;get 0 1;swap 1 0 3 1;add 1 2 0;add 1 3 1;"},
-        {"load 1 0;add 3 1 0;get 3 0;load 1 1;set 0 0;get 3 0;", "get 0 0;add 0 3 1;set 3 3;put 1 2;put 0 2;load 3 0;"}
-    };
 
     private static int many = 0;
     private static int barred = 0;
@@ -36,8 +21,9 @@ public final class ModelTest {
         for (int seed = 2000; seed < 2030; seed++) {
             run(new Random(seed), 7, seed);
         }
-        for (String[] pair : LARGE) {
-            runTold(pair);
+        for (Supplier<FarStore> made : Large.all()) {
+            runLarge(made, true);
+            runLarge(made, false);
         }
         System.out.println(many + " walks untold, " + barred + " fences found, " + untoldFences + " fences untold");
         Check.due("some walks have more than 12,000 states", true, many > 1);
@@ -48,30 +34,49 @@ public final class ModelTest {
 
     private static void run(Random random, int most, int seed) {
         Model model = new Model();
-        FarStore x = new FarStore();
+        String[] texts = new String[2];
         for (int host = 0; host < 2; host++) {
             model.programs[host] = program(random, host, random.nextInt(most + 1));
-            Check.due("program", model.programs[host].length, Check.tell(x, host, text(random, model.programs[host])));
+            texts[host] = text(random, model.programs[host]);
         }
-        tellWords(random, model, x);
+        makeWords(random, model);
         model.falls = random.nextInt(3) == 0;
-        x.falls(model.falls);
         model.walk();
-        compare(random, model, x, "seed " + seed);
+        compare(random, model, () -> told(model, texts), "seed " + seed);
     }
 
-    private static void runTold(String[] pair) {
-        for (int falls = 0; falls < 2; falls++) {
-            Model model = new Model();
-            FarStore x = Check.pair(pair[0], pair[1]);
-            for (int host = 0; host < 2; host++) {
-                model.programs[host] = statements(x, host);
-            }
-            model.falls = falls == 1;
-            x.falls(model.falls);
-            model.walk();
-            compare(new Random(falls), model, x, pair[0] + " | " + pair[1] + " falls " + falls);
+    private static FarStore told(Model model, String[] texts) {
+        FarStore x = Check.pair(texts[0], texts[1]);
+        for (int w = 0; w < 4; w++) {
+            Check.due("word", true, x.word(w, model.words[w], model.rights[w]));
         }
+        x.falls(model.falls);
+        return x;
+    }
+
+    private static void runLarge(Supplier<FarStore> made, boolean falls) {
+        FarStore seen = made.get();
+        Model model = new Model();
+        for (int host = 0; host < 2; host++) {
+            model.programs[host] = statements(seen, host);
+        }
+        for (int w = 0; w < 4; w++) {
+            model.words[w] = seen.about(10 + w);
+            model.rights[w] = seen.about(20 + w);
+        }
+        model.falls = falls;
+        model.walk();
+        Supplier<FarStore> told = () -> {
+            FarStore x = made.get();
+            x.falls(falls);
+            return x;
+        };
+        int a = model.programs[0].length;
+        int b = model.programs[1].length;
+        String run = "large, of " + a + " and " + b + ", falls " + falls;
+        compare(new Random(a), model, told, run);
+        Check.due(run + " missing(false) at the beginning", model.missing(false, 0, 0), told.get().missing(false, 0, 0));
+        Check.due(run + " missing(false) at the ends", model.missing(false, a, b), told.get().missing(false, a, b));
     }
 
     private static int[][] statements(FarStore x, int host) {
@@ -85,11 +90,10 @@ public final class ModelTest {
         return program;
     }
 
-    private static void tellWords(Random random, Model model, FarStore x) {
+    private static void makeWords(Random random, Model model) {
         for (int w = 0; w < 4; w++) {
             model.words[w] = random.nextInt(3) == 0 ? random.nextInt(4) : 0;
             model.rights[w] = random.nextInt(4) == 0 ? random.nextInt(8) : 7;
-            Check.due("word", true, x.word(w, model.words[w], model.rights[w]));
         }
     }
 
@@ -135,33 +139,48 @@ public final class ModelTest {
         return text.toString();
     }
 
-    private static void compare(Random random, Model model, FarStore x, String run) {
-        boolean told = model.states != null;
-        many += told ? 0 : 1;
-        Check.due(run + " walk()", told ? model.states.size() : -2, x.walk());
-        for (int what = 0; what < 4; what++) {
-            Check.due(run + " ends(" + what + ")", told ? model.ends(what) : -2, x.ends(what));
-        }
+    /** Each part on a new object, as what one answers behind its 512th call is free. */
+    private static void compare(Random random, Model model, Supplier<FarStore> told, String run) {
+        many += model.states == null ? 1 : 0;
+        compareWalk(model, told.get(), run);
         for (int a = 0; a <= model.programs[0].length; a++) {
+            FarStore x = told.get();
             for (int b = 0; b <= model.programs[1].length; b++) {
                 compareRow(model, x, false, a, b, run);
             }
         }
-        for (int k = 0; k < 30; k++) {
-            compareRow(model, x, true, random.nextInt(256), k == 0 ? 0 : random.nextInt(16), run);
+        for (int part = 0; part < 3; part++) {
+            FarStore x = told.get();
+            for (int k = 0; k < 10; k++) {
+                compareRow(model, x, true, random.nextInt(256), k == 0 ? 0 : random.nextInt(16), run);
+            }
         }
+        compareMissing(random, model, told.get(), run);
+    }
+
+    private static void compareWalk(Model model, FarStore x, String run) {
+        boolean isTold = model.states != null;
+        Check.due(run + " walk()", isTold ? model.states.size() : -2, x.walk());
+        for (int what = 0; what < 4; what++) {
+            Check.due(run + " ends(" + what + ")", isTold ? model.ends(what) : -2, x.ends(what));
+        }
+    }
+
+    private static void compareMissing(Random random, Model model, FarStore x, String run) {
+        boolean isTold = model.states != null;
+        x.outcome(0, 0);
         String kept = Check.row(x);
-        for (int k = 0; k < (told && model.states.size() < 3000 ? 8 : 2); k++) {
+        for (int k = 0; k < (isTold && model.states.size() < 3000 ? 8 : 2); k++) {
             boolean ends = k % 2 == 0;
             int a = ends ? random.nextInt(256) : random.nextInt(model.programs[0].length + 1);
             int b = ends ? 1 << random.nextInt(4) : random.nextInt(model.programs[1].length + 1);
             int want = model.missing(ends, a, b);
             barred += want >= 0 ? 1 : 0;
-            untoldFences += told && want == -2 ? 1 : 0;
+            untoldFences += isTold && want == -2 ? 1 : 0;
             Check.due(run + " missing(" + ends + ", " + a + ", " + b + ")", want, x.missing(ends, a, b));
             Check.dueRow(run + " missing", kept, x);
         }
-        Check.due(run + " walk() behind missing()", told ? model.states.size() : -2, x.walk());
+        compareWalk(model, x, run + " behind missing():");
     }
 
     private static void compareRow(Model model, FarStore x, boolean ends, int a, int b, String run) {

@@ -1,212 +1,198 @@
-import java.nio.charset.StandardCharsets;
-
 /** Promises 4, 5 and 14: program, fault, statement. */
 public final class ProgramTest {
+    private static final int MIN = Integer.MIN_VALUE;
+    private static final int MAX = Integer.MAX_VALUE;
+    private static final String[] SORTS = {"put 2 3;", "get 3 1;", "swap 2 0 3 1;", "add 3 2 0;", "fence;", "wait;", "set 1 2;",
+        "load 1 0;", "if 1 2 7;"};
+    private static final int[][] PARTS = {{0, 2, 3}, {1, 3, 1}, {2, 2, 0, 3, 1}, {3, 3, 2, 0}, {4}, {5}, {6, 1, 2}, {7, 1, 0},
+        {8, 1, 2, 7}};
+
     public static void main(String[] args) {
-        sorts();
-        tokens();
-        numbers();
-        cantStand();
-        eighth();
+        howMany();
+        emptyThen();
+        formerStays();
         noHost();
-        faultKeeps();
-        wrongStatements();
+        faultOfText();
+        placeOfFault();
+        latestText();
+        faultOfOthers();
+        aheadOfAny();
+        sorts();
+        numbersAsTold();
+        statementOthers();
         Check.finish();
     }
 
-    private static void dueFault(int host, String text, int fault, int place) {
+    private static void howMany() {
+        Check.sentence("The tape (empty then) is a host's PROGRAM: how many STATEMENTS.");
         FarStore x = new FarStore();
-        Check.tell(x, host, "wait;");
-        Check.due("program of " + text, -1, Check.tell(x, host, text));
-        Check.due("fault(0) of " + text, fault, x.fault(0));
-        Check.due("fault(1) of " + text, place, x.fault(1));
-        Check.due("fault(2)", -1, x.fault(2));
-        Check.due("fault(-1)", -1, x.fault(-1));
-        Check.due("the tape is empty behind a fault", 0, x.about(2));
-        Check.due("the former one stays", 1, x.about(host));
-        Check.due("the former one stays", 5, x.statement(host, 0, 0));
+        Check.due("program(0) of an empty tape", 0, x.program(0));
+        Check.due("program(1) of an empty tape", 0, x.program(1));
+        for (int host = 0; host < 2; host++) {
+            for (int count = 7; count >= 0; count--) {
+                Check.due("program(" + host + ")", count, Check.tell(x, host, "fence;".repeat(count)));
+                Check.due("about(" + host + ")", count, x.about(host));
+                Check.due("about of the other host", 0, x.about(1 - host));
+            }
+        }
     }
 
-    private static void dueGood(int host, String text, int count) {
+    private static void emptyThen() {
+        Check.sentence("The tape (empty then) is a host's PROGRAM");
         FarStore x = new FarStore();
-        Check.due("program of " + text, count, Check.tell(x, host, text));
-        Check.due("fault(0) of " + text, 0, x.fault(0));
-        Check.due("fault(1) of " + text, -1, x.fault(1));
-        Check.due("fault(2)", -1, x.fault(2));
-        Check.due("the tape is empty", 0, x.about(2));
-        Check.due("about(host)", count, x.about(host));
+        Check.due("program(0)", 1, Check.tell(x, 0, "wait;"));
+        Check.due("about(2)", 0, x.about(2));
+        Check.due("end(1)", -1, x.end(1));
+        Check.due("program(1)", 0, x.program(1));
+        Check.due("program(0) with a fault", -1, Check.tell(x, 0, "wait"));
+        Check.due("about(2)", 0, x.about(2));
+        Check.due("program(0) of what is left", 0, x.program(0));
+        Check.tape(x, "wait;".repeat(7) + " ".repeat(165));
+        Check.due("program(0) of a full tape", 7, x.program(0));
+        Check.due("feed behind it", 20, x.feed(0x20202020, 0x20202020, 0x20202020, 0x20202020, 0x20202020));
+        Check.due("program(1)", 0, x.program(1));
+    }
+
+    private static void formerStays() {
+        Check.sentence("NONE: it has a FAULT, the former one stays");
+        String[] faulty = {"?", "put 2 1;put 3 1;put 2 9;", "wait;".repeat(8), "put 2 1;put 2", "set 3 1;set 1 0;"};
+        for (String text : faulty) {
+            for (int host = 0; host < 2; host++) {
+                int told = host;
+                Check.dueUnchanged("program(" + host + ") of " + text, -1, Check::busy, x -> Check.tell(x, told, text),
+                    Look.Part.FAULT, Look.Part.TAPE);
+            }
+        }
+        FarStore x = Check.pair("wait;", "");
+        Check.due("a fault at the 8th statement", -1, Check.tell(x, 0, "put 2 1;".repeat(8)));
+        dueStatement(x, 0, 0, 5);
+        Check.due("statement(0, 1, 0)", -1, x.statement(0, 1, 0));
+        Check.due("walk()", 2, x.walk());
+        Check.due("a good text then", 2, Check.tell(x, 0, "set 0 1;fence;"));
+        dueStatement(x, 0, 0, 6, 0, 1);
+    }
+
+    private static void noHost() {
+        Check.sentence("or (the tape stays) there is no such host.");
+        for (int host : new int[] {-1, 2, 3, MIN, MAX}) {
+            Check.dueUnchanged("program(" + host + ")", -1, Check::busy, x -> x.program(host));
+            FarStore x = new FarStore();
+            Check.tape(x, "fence");
+            Check.due("program(" + host + ") of a faulty tape", -1, x.program(host));
+            Check.due("about(2)", 5, x.about(2));
+            Check.due("fault(0): no text has been read", -1, x.fault(0));
+        }
+    }
+
+    private static void faultOfText() {
+        Check.sentence("Of the latest text: 0 its FAULT (0 without)");
+        Texts.dueGood(0, "", 0);
+        Texts.dueGood(1, "wait;", 1);
+        Texts.dueFault(0, "wait", 1, 4);
+        Texts.dueFault(1, "put 2 1;", 2, 4);
+        Texts.dueFault(0, "wait;".repeat(8), 3, 35);
+    }
+
+    private static void placeOfFault() {
+        Check.sentence("1 its place (NONE without)");
+        Texts.dueFault(0, "?", 1, 0);
+        Texts.dueFault(0, " ".repeat(199) + ";", 1, 199);
+        Texts.dueFault(0, " ".repeat(196) + "wait", 1, 200);
+        Texts.dueGood(0, " ".repeat(195) + "wait;", 1);
+    }
+
+    private static void latestText() {
+        Check.sentence("Of the latest text");
+        FarStore x = new FarStore();
+        Check.due("program(0)", -1, Check.tell(x, 0, "fence; ?"));
+        Check.due("fault(1)", 7, x.fault(1));
+        Check.tape(x, "put 9 9;");
+        Check.due("fault(0): a tape is no text yet", 1, x.fault(0));
+        Check.due("fault(1): a tape is no text yet", 7, x.fault(1));
+        Check.due("program(2)", -1, x.program(2));
+        Check.due("fault(1): nor for no host", 7, x.fault(1));
+        Check.due("program(1)", -1, x.program(1));
+        Check.due("fault(0) of either host's text", 2, x.fault(0));
+        Check.due("fault(1) of either host's text", 4, x.fault(1));
+        Check.due("program(0) of an empty tape", 0, x.program(0));
+        Check.due("fault(0) of it", 0, x.fault(0));
+        Check.due("fault(1) of it", -1, x.fault(1));
+    }
+
+    private static void faultOfOthers() {
+        Check.sentence("NONE for others, and ahead of any.");
+        for (int what : new int[] {-1, 2, 3, MIN, MAX}) {
+            Check.dueUnchanged("fault(" + what + ")", -1, Check::busy, x -> x.fault(what));
+        }
+    }
+
+    private static void aheadOfAny() {
+        Check.sentence("NONE for others, and ahead of any.");
+        FarStore x = new FarStore();
+        for (int what = -1; what < 3; what++) {
+            Check.due("fault(" + what + ") of a new object", -1, x.fault(what));
+        }
+        x.feed(0, 0, 0, 0, 0);
+        x.program(-1);
+        for (int what = -1; what < 3; what++) {
+            Check.due("fault(" + what + ") ahead of any text", -1, x.fault(what));
+        }
+        Check.due("program(0)", -1, x.program(0));
+        Check.due("fault(0)", 1, x.fault(0));
+        Check.due("fault(1)", 0, x.fault(1));
     }
 
     private static void dueStatement(FarStore x, int host, int i, int... parts) {
-        for (int what = 0; what < 6; what++) {
-            Check.due("statement(" + host + ", " + i + ", " + what + ")", what < parts.length ? parts[what] : -1,
-                x.statement(host, i, what));
+        for (int what = -1; what < 6; what++) {
+            Check.due("statement(" + host + ", " + i + ", " + what + ")",
+                what >= 0 && what < parts.length ? parts[what] : -1, x.statement(host, i, what));
         }
-        Check.due("statement(.., -1)", -1, x.statement(host, i, -1));
     }
 
     private static void sorts() {
-        FarStore x = Check.pair("put 2 3; get 3 1; swap 2 0 3 1; add 3 2 0; fence; wait; set 1 2;",
-            "put 0 1;get 1 0;swap 1 3 2 0;add 0 0 1;load 3 1;load 2 0;if 1 2 7;");
-        dueStatement(x, 0, 0, 0, 2, 3);
-        dueStatement(x, 0, 1, 1, 3, 1);
-        dueStatement(x, 0, 2, 2, 2, 0, 3, 1);
-        dueStatement(x, 0, 3, 3, 3, 2, 0);
-        dueStatement(x, 0, 4, 4);
-        dueStatement(x, 0, 5, 5);
-        dueStatement(x, 0, 6, 6, 1, 2);
-        dueStatement(x, 0, 7, -1);
+        Check.sentence("0 its sort (0 put, 1 get, 2 swap, 3 add, 4 fence, 5 wait, 6 set, 7 load, 8 if)");
+        for (int place = 0; place < 7; place++) {
+            for (int sort = 0; sort < SORTS.length; sort++) {
+                // Among swaps, which have the most numbers, none of which may shine through.
+                FarStore x = Check.alone(0, "swap 3 3 3 1;".repeat(place) + SORTS[sort] + "swap 3 3 3 1;".repeat(6 - place));
+                dueStatement(x, 0, place, PARTS[sort]);
+            }
+        }
+    }
+
+    private static void numbersAsTold() {
+        Check.sentence("1 .. 4 its NUMBERS as told.");
+        FarStore x = Check.pair("", "put 0 1;get 1 0;swap 1 3 2 0;add 0 0 1;load 3 1;set 2 0;if 1 2 007;");
         dueStatement(x, 1, 0, 0, 0, 1);
         dueStatement(x, 1, 1, 1, 1, 0);
         dueStatement(x, 1, 2, 2, 1, 3, 2, 0);
         dueStatement(x, 1, 3, 3, 0, 0, 1);
         dueStatement(x, 1, 4, 7, 3, 1);
-        dueStatement(x, 1, 5, 7, 2, 0);
+        dueStatement(x, 1, 5, 6, 2, 0);
         dueStatement(x, 1, 6, 8, 1, 2, 7);
+        dueStatement(x, 1, 7);
+        FarStore shorter = Check.pair("if 0 0 7;", "");
+        dueStatement(shorter, 0, 0, 8, 0, 0, 7);
+        Check.due("walk()", 2, shorter.walk());
+        Check.due("missing(false, 1, 0)", -1, shorter.missing(false, 1, 0));
+        dueStatement(shorter, 0, 0, 8, 0, 0, 7);
     }
 
-    private static void tokens() {
-        dueGood(0, "", 0);
-        dueGood(1, " \n ", 0);
-        dueGood(0, "put2 1;", 1);
-        dueGood(0, "put\n2\n1\n;\n", 1);
-        dueGood(0, "  fence  ;wait;", 2);
-        dueGood(0, "put 002 0001;", 1);
-        dueFault(0, "putt 2 1;", 1, 0);
-        dueFault(0, "Put 2 1;", 1, 0);
-        dueFault(0, "pu t 2 1;", 1, 0);
-        dueFault(0, "put 21;", 2, 4);
-        dueFault(0, "put 2 1\t;", 1, 7);
-        dueFault(0, "put\r2 1;", 1, 3);
-        dueFault(0, "put 2 -1;", 1, 6);
-        dueFault(0, "fence;,", 1, 6);
-        dueFault(0, "fencewait;", 1, 0);
-        dueFault(0, "put 2 1x;", 1, 7);
-        dueFault(0, new String(new byte[] {0}, StandardCharsets.ISO_8859_1), 1, 0);
-        dueFault(0, new String(new byte[] {(byte) 255}, StandardCharsets.ISO_8859_1), 1, 0);
-        dueFault(0, "fence;" + (char) 0xE1, 1, 6);
-        for (char one : "aAzZ".toCharArray()) {
-            dueFault(0, "wait" + one + ";", 1, 0);
+    private static void statementOthers() {
+        Check.sentence("NONE for others. ## Promise 15");
+        int[][] others = {{-1, 0, 0}, {2, 0, 0}, {MIN, 0, 0}, {MAX, 0, 0}, {0, -1, 0}, {0, 2, 0}, {0, 7, 0}, {0, 8, 0}, {1, 3, 0},
+            {1, -1, 1}, {0, MIN, 0}, {0, MAX, 1}, {0, 0, -1}, {0, 0, 3}, {0, 0, 4}, {0, 0, 5}, {1, 0, 4}, {1, 0, 5}, {0, 0, MIN},
+            {0, 0, MAX}};
+        for (int[] one : others) {
+            Check.dueUnchanged("statement(" + one[0] + ", " + one[1] + ", " + one[2] + ")", -1, Check::busy,
+                x -> x.statement(one[0], one[1], one[2]));
         }
-        for (char one : "`@{[/:0".toCharArray()) {
-            dueFault(0, "wait" + one + ";", 1, 4);
-        }
-        for (int one = 0; one < 256; one++) {
-            boolean blank = one == 32 || one == 10;
-            if (blank) {
-                dueGood(0, (char) one + "wait;", 1);
-            } else {
-                dueFault(0, (char) one + ";wait;", 1, 0);
-            }
-        }
-    }
-
-    private static void numbers() {
-        String[] far = {"put # 0;", "get # 0;", "swap # 0 0 0;", "add # 0 0;"};
-        String[] own = {"set # 0;", "load # 0;"};
-        String[] values = {"put 2 #;", "swap 2 # 0 0;", "swap 2 0 # 0;", "add 2 # 0;", "set 0 #;", "if 0 # 1;"};
-        String[] registers = {"get 2 #;", "swap 2 0 0 #;", "add 2 0 #;", "load 0 #;", "if # 0 1;"};
-        String[] counts = {"if 0 0 #;"};
-        dueRange(0, far, 2, 3);
-        dueRange(1, far, 0, 1);
-        dueRange(0, own, 0, 1);
-        dueRange(1, own, 2, 3);
-        dueRange(0, values, 0, 3);
-        dueRange(0, registers, 0, 1);
-        dueRange(0, counts, 1, 7);
-    }
-
-    private static void dueRange(int host, String[] texts, int least, int most) {
-        String[] tried = {"0", "1", "2", "3", "4", "5", "6", "7", "8", "9", "10", "12", "4294967296", "4294967297",
-            "4294967298", "4294967299", "18446744073709551617", "18446744073709551618"};
-        for (String text : texts) {
-            int place = text.indexOf('#');
-            for (String number : tried) {
-                String whole = text.replace("#", number);
-                if (number.length() == 1 && number.charAt(0) - '0' >= least && number.charAt(0) - '0' <= most) {
-                    dueGood(host, whole, 1);
-                } else {
-                    dueFault(host, whole, 2, place);
-                }
-            }
-        }
-    }
-
-    private static void cantStand() {
-        dueFault(0, ";", 1, 0);
-        dueFault(0, "7;", 1, 0);
-        dueFault(0, "fence;;", 1, 6);
-        dueFault(0, "fence wait;", 1, 6);
-        dueFault(0, "fence 9;", 1, 6);
-        dueFault(0, "put;", 1, 3);
-        dueFault(0, "put 2 1 9;", 1, 8);
-        dueFault(0, "put 2 put;", 1, 6);
-        dueFault(0, "fence", 1, 5);
-        dueFault(0, "fence  ", 1, 7);
-        dueFault(0, "put 2", 1, 5);
-        dueFault(0, "put 2 1", 1, 7);
-        dueFault(0, "fence; if 0 0 8", 2, 14);
-        dueFault(0, "put 9 x", 2, 4);
-        dueFault(0, "put x 9", 1, 4);
-        dueFault(0, "unknown 9 9 9", 1, 0);
-    }
-
-    private static void eighth() {
-        String seven = "wait;".repeat(7);
-        dueGood(0, seven, 7);
-        dueGood(1, seven + "  ", 7);
-        dueFault(0, seven + "wait;", 3, 35);
-        dueFault(0, seven + " put 9 9 9", 3, 36);
-        dueFault(0, seven + "wait", 3, 35);
-        dueFault(0, seven + "waits;", 1, 35);
-        dueFault(0, seven + ";", 1, 35);
-        dueFault(0, seven + "8", 1, 35);
-        dueFault(0, seven + "!", 1, 35);
-        dueFault(0, "wait;".repeat(6) + "put 2 4;wait;", 2, 36);
-    }
-
-    private static void noHost() {
-        int[] wrong = {-1, 2, Integer.MIN_VALUE, Integer.MAX_VALUE};
-        for (int host : wrong) {
-            FarStore x = new FarStore();
-            Check.tape(x, "fence;");
-            Check.due("program of no host", -1, x.program(host));
-            Check.due("the tape stays", 6, x.about(2));
-            Check.due("no text was told", -1, x.fault(0));
-            Check.due("program(0)", 1, x.program(0));
-            Check.due("statement of no host", -1, x.statement(host, 0, 0));
-        }
-    }
-
-    private static void faultKeeps() {
-        FarStore x = new FarStore();
-        Check.tell(x, 0, "fence; ?");
-        Check.tape(x, "wait;");
-        Check.due("fault(0) of the latest text", 1, x.fault(0));
-        Check.due("fault(1) of the latest text", 7, x.fault(1));
-        x.program(3);
-        Check.due("fault(1) of the latest text", 7, x.fault(1));
-        Check.due("program(1)", 1, x.program(1));
-        Check.due("fault(0) of a good text", 0, x.fault(0));
-        Check.due("fault(1) of a good text", -1, x.fault(1));
-        Check.tell(x, 0, "put 2 1; put 3 1; put 2 9;");
-        Check.due("a fault in the midst changes nothing", 0, x.about(0));
-        Check.due("a fault in the midst changes nothing", 2, x.walk());
-        Check.due("an empty text is a program", 0, Check.tell(x, 1, ""));
-        Check.due("about(1)", 0, x.about(1));
-    }
-
-    private static void wrongStatements() {
-        FarStore x = Check.pair("if 1 3 2;", "");
-        int[] wrong = {-1, 1, 2, 7, 8, Integer.MIN_VALUE, Integer.MAX_VALUE};
-        for (int i : wrong) {
-            Check.due("statement(0, " + i + ", 0)", -1, x.statement(0, i, 0));
-            Check.due("statement(0, " + i + ", 1)", -1, x.statement(0, i, 1));
-        }
-        Check.due("statement(1, 0, 0)", -1, x.statement(1, 0, 0));
-        Check.due("statement(0, 0, 4)", -1, x.statement(0, 0, 4));
-        Check.due("statement(0, 0, 5)", -1, x.statement(0, 0, 5));
-        Check.due("statement(0, 0, MIN)", -1, x.statement(0, 0, Integer.MIN_VALUE));
-        Check.due("statement(0, 0, MAX)", -1, x.statement(0, 0, Integer.MAX_VALUE));
+        FarStore seven = Check.pair("wait;".repeat(7), "fence;");
+        Check.due("statement(0, 6, 0)", 5, seven.statement(0, 6, 0));
+        Check.due("statement(0, 7, 0)", -1, seven.statement(0, 7, 0));
+        Check.due("statement(1, 0, 0)", 4, seven.statement(1, 0, 0));
+        Check.due("statement(1, 1, 0)", -1, seven.statement(1, 1, 0));
+        Check.due("a shorter program", 1, Check.tell(seven, 0, "wait;"));
+        Check.due("statement(0, 1, 0) of what went", -1, seven.statement(0, 1, 0));
     }
 }

@@ -1,134 +1,210 @@
-/** Promises 8 and 9: walk and ends, with states counted by hand. */
+/** Promises 8 and 9, and what the terms of part II say of states, the walk and ends. */
 public final class WalkTest {
+    private static final int[] OTHERS = {-1, 4, 5, Integer.MIN_VALUE, Integer.MAX_VALUE};
+
     public static void main(String[] args) {
-        small();
-        overtaking();
-        rights();
-        falls();
-        brokenAndFallen();
-        queueIdentity();
-        limit();
+        for (Side side : Side.BOTH) {
+            words(side);
+            registers(side);
+            places(side);
+            queues(side);
+            broken(side);
+            fell(side);
+            fewestSteps(side);
+            endButForFalls(side);
+            goodEnds(side);
+            brokenEnds(side);
+        }
+        bothBroken();
+        atMost12000();
+        states();
+        mostSteps();
+        endsOfOthers();
+        endsUntold();
         followsChanges();
         Check.finish();
     }
 
-    private static void dueWalk(FarStore x, String name, int states, int... ends) {
-        Check.due(name + ": walk()", states, x.walk());
-        for (int what = 0; what < 4; what++) {
-            Check.due(name + ": ends(" + what + ")", ends[what], x.ends(what));
-        }
-        int[] others = {-1, 4, Integer.MIN_VALUE, Integer.MAX_VALUE};
-        for (int what : others) {
-            Check.due(name + ": ends of others", -1, x.ends(what));
-        }
+    private static void words(Side side) {
+        Check.sentence("A STATE: WORDS, REGISTERS, where both are, QUEUES");
+        // The word is of the one that came last.
+        FarStore x = side.beside("set x 1;", "put X 2;");
+        Check.dueWalk(x, "states that differ in a word", 7, 2, 2, 0, 3);
+        FarStore second = side.beside("set y 1;", "put Y 2;");
+        Check.dueWalk(second, "states that differ in a word", 7, 2, 2, 0, 3);
     }
 
-    private static void small() {
-        dueWalk(new FarStore(), "empty", 1, 1, 1, 0, 0);
-        dueWalk(Check.pair("put 2 1;", ""), "a put", 3, 1, 1, 0, 2);
-        dueWalk(Check.pair("", "get 0 1;"), "a get", 3, 1, 1, 0, 2);
-        dueWalk(Check.pair("set 0 1;load 0 1;", ""), "own words", 3, 1, 1, 0, 2);
-        dueWalk(Check.pair("set 0 1;", "set 3 1;"), "both hosts", 4, 1, 1, 0, 2);
-        dueWalk(Check.pair("fence;wait;", ""), "nothing to wait for", 3, 1, 1, 0, 2);
-        dueWalk(Check.pair("if 0 0 7;wait;", ""), "an if that leaves out more than there is", 2, 1, 1, 0, 1);
-        dueWalk(Check.pair("if 0 1 7;wait;", ""), "an if that leaves out nothing", 3, 1, 1, 0, 2);
-    }
-
-    private static void overtaking() {
-        dueWalk(Check.pair("get 2 0;put 3 1;", ""), "a put passes a get", 7, 1, 1, 0, 4);
-        dueWalk(Check.pair("put 3 1;get 2 0;", ""), "a get passes no put", 6, 1, 1, 0, 4);
-        dueWalk(Check.pair("put 2 1;put 3 1;", ""), "a put passes no put", 6, 1, 1, 0, 4);
-        dueWalk(Check.pair("get 2 1;get 3 1;", ""), "a get passes no get", 6, 1, 1, 0, 4);
-        dueWalk(Check.pair("get 2 0;fence;put 3 1;", ""), "a fence waits for a get", 6, 1, 1, 0, 5);
-        dueWalk(Check.pair("put 2 1;fence;put 3 1;", ""), "a fence waits for no put", 8, 1, 1, 0, 5);
-        dueWalk(Check.pair("put 2 1;wait;put 3 1;", ""), "a wait waits for a put", 6, 1, 1, 0, 5);
-    }
-
-    private static void rights() {
-        String[] wishes = {"put 2 1;", "get 2 1;", "swap 2 0 1 1;", "add 2 1 1;"};
-        int[] needed = {2, 1, 4, 4};
-        for (int i = 0; i < wishes.length; i++) {
-            for (int rights = 0; rights < 8; rights++) {
-                FarStore x = Check.pair(wishes[i], "");
-                x.word(2, 0, rights);
-                boolean has = (rights & needed[i]) != 0;
-                dueWalk(x, wishes[i] + " with rights " + rights, 3, 1, has ? 1 : 0, has ? 0 : 1, 2);
-                Check.due("the word is touched with the right alone", has && i != 1 ? 2 : -1, x.outcome(16, 4));
+    private static void registers(Side side) {
+        Check.sentence("A STATE: WORDS, REGISTERS, where both are, QUEUES");
+        for (int r = 0; r < 2; r++) {
+            for (int v = 1; v < 4; v++) {
+                FarStore x = side.beside("load x " + r + ";", "put X " + v + ";");
+                Check.dueWalk(x, "states that differ in a register", 7, 2, 2, 0, 3);
             }
         }
-        FarStore own = Check.pair("set 0 1;load 0 1;", "");
-        own.word(0, 0, 0);
-        dueWalk(own, "own words need no rights", 3, 1, 1, 0, 2);
-        FarStore queue = Check.pair("put 2 1;put 3 1;set 0 1;", "");
-        queue.word(2, 0, 5);
-        // Three places with the first wish in the queue, two of them with the second; broken at each.
-        dueWalk(queue, "a broken queue loses all wishes, its host stops", 7, 3, 0, 3, 4);
     }
 
-    private static void falls() {
-        FarStore x = new FarStore();
-        x.falls(true);
-        dueWalk(x, "falls alone", 3, 3, 1, 0, 1);
-        x = Check.pair("put 2 1;", "");
-        x.falls(true);
-        dueWalk(x, "a put and falls", 10, 5, 1, 1, 3);
-        x = Check.pair("set 0 1;", "");
-        x.falls(true);
-        // Host 0 stops where it fell; it goes on if host 1 fell.
-        dueWalk(x, "a set and falls", 6, 4, 1, 0, 2);
+    private static void places(Side side) {
+        Check.sentence("A STATE: WORDS, REGISTERS, where both are, QUEUES");
+        Check.dueWalk(side.beside("set x 0;", ""), "a set of one", 2, 1, 1, 0, 1);
+        Check.dueWalk(side.beside("set x 0;", "set x 0;"), "a set of each", 4, 1, 1, 0, 2);
+        Check.dueWalk(side.beside("wait;".repeat(7), "wait;".repeat(7)), "seven waits of each", 64, 1, 1, 0, 14);
     }
 
-    private static void brokenAndFallen() {
-        FarStore x = Check.pair("put 2 1;", "");
+    private static void queues(Side side) {
+        Check.sentence("QUEUES (of which STATEMENTS their WISHES are)");
+        FarStore x = side.alone("get X 0;if 0 0 1;put Y 1;if 0 1 1;put Y 1;");
+        x.word(side.far, 1, 7);
+        // At the program's end the one wish left may be of either put, though they are alike.
+        Check.dueWalk(x, "like wishes of two statements are two", 16, 2, 2, 0, 6);
+        Check.dueWalk(side.beside("put X 1;put X 1;", "put X 1;"), "queues of both", 18, 1, 1, 0, 6);
+    }
+
+    private static void broken(Side side) {
+        Check.sentence("what is BROKEN, who FELL.");
+        FarStore x = side.alone("put X 0;");
+        x.falls(true);
+        // The wish was done and then the other host fell, or it fell and then the wish broke the queue: all else is alike.
+        Check.dueWalk(x, "states that differ in what is broken", 10, 5, 1, 1, 3);
+    }
+
+    private static void fell(Side side) {
+        Check.sentence("what is BROKEN, who FELL.");
+        FarStore x = side.alone("");
+        x.falls(true);
+        Check.dueWalk(x, "states that differ in who fell", 3, 3, 1, 0, 1);
+    }
+
+    private static void fewestSteps(Side side) {
+        Check.sentence("THE WALK: all STATES that can come, by the fewest STEPS");
+        // The end comes by 4 steps, or by 5 if the first load sees the put: it is one state, of 4 steps.
+        FarStore x = side.beside("load x 0;if 0 0 1;load y 0;", "put X 1;");
+        Check.due("ends(0)", 1, x.ends(0));
+        Check.due("ends(3)", 4, x.ends(3));
+        side.dueBoth(x, 3, 1, side.host == 0 ? "sso" : "oss");
+        Check.due("outcome(0, 0)", 4, x.outcome(0, 0));
+    }
+
+    private static void endButForFalls(Side side) {
+        Check.sentence("AN END: a STATE behind which no STEP (but a FALL) can come");
+        FarStore x = side.alone("");
+        Check.due("ends(0)", 1, x.ends(0));
+        x.falls(true);
+        Check.due("ends(0) with falls", 3, x.ends(0));
+        Check.due("ends(1) with falls", 1, x.ends(1));
+        FarStore wish = side.alone("put X 1;");
+        Check.due("a wish can still be done: ends(0)", 1, wish.ends(0));
+        Check.due("both at the program's end, ahead of the end", 1, side.host == 0 ? wish.both(1, 0) : wish.both(0, 1));
+        Check.due("the end", 2, wish.outcome(0, 0));
+    }
+
+    private static void goodEnds(Side side) {
+        Check.sentence("GOOD if both hosts are at their programs' ends and nothing is BROKEN, nobody FELL.");
+        FarStore broken = side.alone("put X 1;");
+        broken.word(side.far, 0, 5);
+        Check.dueWalk(broken, "broken at its program's end", 3, 1, 0, 1, 2);
+        FarStore fallen = side.alone("set x 1;");
+        fallen.falls(true);
+        Check.dueWalk(fallen, "fallen at, or ahead of, its program's end", 6, 4, 1, 0, 2);
+        FarStore passed = side.alone("get X 0;put Y 1;");
+        passed.word(side.far, 0, 6);
+        Check.dueOutcome(passed, 0, 0, null);
+        FarStore two = side.beside("set x 1;", "put X 2;");
+        Check.due("good ends with other words are two", 2, two.ends(1));
+    }
+
+    private static void brokenEnds(Side side) {
+        Check.sentence("those in which something is BROKEN (2)");
+        FarStore x = side.beside("put X 1;", "set x 2;");
+        Check.dueWalk(x, "nothing broken", 7, 2, 2, 0, 3);
+        x.word(side.far, 0, 5);
+        Check.dueWalk(x, "broken", 6, 1, 0, 1, 3);
+        x.word(side.far, 0, 7);
+        Check.dueWalk(x, "nothing broken again", 7, 2, 2, 0, 3);
+    }
+
+    private static void bothBroken() {
+        Check.sentence("those in which something is BROKEN (2)");
+        FarStore x = Check.pair("put 2 0;", "put 0 0;");
+        x.word(0, 0, 0);
         x.word(2, 0, 0);
-        x.falls(true);
-        // Beginning, wish, broken: each with nobody, host 0 or host 1 fallen.
-        dueWalk(x, "a broken host may fall", 9, 4, 0, 3, 3);
+        Check.dueWalk(x, "both broken", 9, 1, 0, 1, 4);
     }
 
-    private static void queueIdentity() {
-        FarStore x = Check.pair("get 2 0;if 0 0 1;put 3 1;if 0 1 1;put 3 1;", "");
-        x.word(2, 1, 7);
-        // At the program's end the one wish left may be of either put.
-        dueWalk(x, "like wishes of two statements are two", 16, 2, 2, 0, 6);
-        dueWalk(Check.pair("put 2 1;put 2 1;", "put 0 1;"), "both hosts' queues", 18, 1, 1, 0, 6);
-        dueWalk(Check.pair("put 2 0;put 2 0;put 2 0;put 2 0;", ""), "at most 3 wishes", 14, 1, 1, 0, 8);
+    private static void atMost12000() {
+        Check.sentence("It isn't told if there are more than 12,000 STATES.");
+        Check.due("walk() of 12,000", 12000, Large.justTold().walk());
+        Check.due("ends(3) of 12,000", true, Large.justTold().ends(3) > 20);
+        Check.due("both(0, 0) of 12,000", 0, Large.justTold().both(0, 0));
+        Check.due("outcome(0, 0) of 12,000", 25, Large.justTold().outcome(0, 0));
+        Check.due("walk() of 12,001", -2, Large.justUntold().walk());
+        Check.due("both(0, 0) of 12,001", -2, Large.justUntold().both(0, 0));
+        Check.due("outcome(0, 0) of 12,001", -2, Large.justUntold().outcome(0, 0));
     }
 
-    private static void limit() {
-        FarStore x = Check.pair("set 1 3;set 1 2;add 3 2 0;put 3 0;get 2 0;swap 2 0 2 1;add 2 2 0;",
-            "swap 1 0 2 0;add 1 1 1;swap 0 0 1 0;add 0 1 0;get 0 1;set 3 2;swap 1 0 1 0;");
-        x.falls(true);
-        Check.due("walk() of 12,000", 12000, x.walk());
-        x = Check.pair("load 1 0;add 3 1 0;get 3 0;load 1 1;load 0 1;set 0 0;get 3 0;",
-            "get 0 0;add 0 3 1;set 3 3;put 1 2;put 0 2;load 3 0;");
-        Check.due("both(1, 0)", 1, x.both(1, 0));
-        x.falls(true);
-        dueWalk(x, "12,001 states", -2, -2, -2, -2, -2);
-        Check.due("both(0, 0) untold", -2, x.both(0, 0));
-        Check.due("both(8, 0): there is none such", -1, x.both(8, 0));
-        Check.due("outcome(0, 0) untold", -2, x.outcome(0, 0));
-        Check.due("outcome(256, 0): others", -1, x.outcome(256, 0));
-        Check.due("missing(true, 0, 0) untold", -2, x.missing(true, 0, 0));
-        Check.due("missing(true, 0, 16): others", -1, x.missing(true, 0, 16));
-        Check.dueRow("calls that told no number", "0", x);
+    private static void states() {
+        Check.sentence("STATES of THE WALK. -2: more than 12,000.");
+        Check.due("walk() of a new object", 1, new FarStore().walk());
+        FarStore x = Large.justUntold();
+        Check.due("walk()", -2, x.walk());
+        Check.due("walk() again", -2, x.walk());
         x.falls(false);
         Check.due("walk() without falls", 3107, x.walk());
+        x.falls(true);
+        Check.due("walk() with falls again", -2, x.walk());
+        Check.due("a shorter program", 0, Check.tell(x, 1, ""));
+        Check.due("walk() of it", true, x.walk() > 0);
+        FarStore told = Large.justTold();
+        Check.due("walk()", 12000, told.walk());
+        Check.due("walk() again", 12000, told.walk());
+        // With nobody, host 0 or host 1 fallen 24 each, and with host 1 fallen 7 broken ones.
+        Check.dueUnchanged("walk()", 79, Check::busy, FarStore::walk);
+    }
+
+    private static void mostSteps() {
+        Check.sentence("the most STEPS of a STATE (3)");
+        Check.due("ends(3) of a new object", 0, new FarStore().ends(3));
+        FarStore x = Check.pair("put 2 0;".repeat(7), "put 0 0;".repeat(7));
+        Check.due("ends(3) of 14 puts", 28, x.ends(3));
+        x.falls(true);
+        Check.due("ends(3) of 14 puts and a fall", 29, x.ends(3));
+    }
+
+    private static void endsOfOthers() {
+        Check.sentence("NONE for others; -2 as walk(). ## Promise 10");
+        for (int what : OTHERS) {
+            Check.dueUnchanged("ends(" + what + ")", -1, Check::busy, x -> x.ends(what));
+            Check.due("ends(" + what + ") of an untold walk", -1, Large.justUntold().ends(what));
+        }
+    }
+
+    private static void endsUntold() {
+        Check.sentence("NONE for others; -2 as walk(). ## Promise 10");
+        FarStore x = Large.justUntold();
+        for (int what = 0; what < 4; what++) {
+            Check.due("ends(" + what + ")", -2, x.ends(what));
+        }
+        x.falls(false);
+        for (int what = 0; what < 4; what++) {
+            Check.due("ends(" + what + ") is told", true, x.ends(what) >= 0);
+        }
     }
 
     private static void followsChanges() {
+        Check.sentence("STATES of THE WALK.");
         FarStore x = Check.pair("put 2 1;", "");
         Check.due("walk()", 3, x.walk());
-        Check.due("a faulty text changes nothing", -1, Check.tell(x, 0, "put 2 1;put 2"));
-        Check.due("walk()", 3, x.walk());
-        Check.tell(x, 1, "put 0 1;");
-        Check.due("walk()", 9, x.walk());
+        Check.due("a faulty text", -1, Check.tell(x, 0, "put 2 1;put 2"));
+        Check.due("walk() behind a faulty text", 3, x.walk());
+        Check.due("program(1)", 1, Check.tell(x, 1, "put 0 1;"));
+        Check.due("walk() behind a program", 9, x.walk());
         x.word(0, 1, 7);
-        Check.due("outcome(16, 4)", 4, x.outcome(17, 15));
-        Check.tell(x, 0, "");
-        Check.due("walk()", 3, x.walk());
+        Check.due("outcome(17, 15) behind a word", 4, x.outcome(17, 15));
+        x.word(0, 1, 5);
+        Check.due("outcome(17, 15) behind rights", -1, x.outcome(17, 15));
+        Check.due("program(0)", 0, Check.tell(x, 0, ""));
+        Check.due("walk() behind a program", 3, x.walk());
         Check.due("missing(false, 0, 1)", -1, x.missing(false, 0, 1));
-        Check.due("walk() behind missing()", 3, x.walk());
-        Check.due("ends(3) behind missing()", 2, x.ends(3));
+        Check.dueWalk(x, "behind missing()", 3, 1, 0, 1, 2);
     }
 }
