@@ -154,11 +154,17 @@ public final class FarStore {
     }
 
     public int both(int a, int b) {
-        return arePlaces(a, b) ? fewestSteps(false, a, b) : NONE;
+        if (!arePlaces(a, b)) {
+            return NONE;
+        }
+        return isTold() ? fewestSteps(false, a, b) : UNTOLD;
     }
 
     public int outcome(int values, int set) {
-        return isOutcome(values, set) ? fewestSteps(true, values, set) : NONE;
+        if (!isOutcome(values, set)) {
+            return NONE;
+        }
+        return isTold() ? fewestSteps(true, values, set) : UNTOLD;
     }
 
     public int step(int i) {
@@ -240,11 +246,8 @@ public final class FarStore {
         return all.isTold;
     }
 
-    /** The steps to the first state that is asked for; its row is kept for step(). */
+    /** The steps to the told walk's first state that is asked for; its row is kept for step(). */
     private int fewestSteps(boolean ends, int a, int b) {
-        if (!isTold()) {
-            return UNTOLD;
-        }
         int found = firstState(ends, a, b);
         if (found == NONE) {
             return NONE;

@@ -88,7 +88,8 @@ public final class RowTest {
         Check.dueBoth(x, 3, 0, "0");
         Check.dueBoth(x, 4, 2, null);
         Check.dueBoth(x, 4, 3, "0011");
-        int[][] others = {{-1, 0}, {0, -1}, {3, 0}, {0, 4}, {8, 0}, {0, 8}, {9, 0}, {16, 0}, {MAX, 0}, {0, MAX}, {MIN, 0}, {0, MIN}};
+        int[][] others = {{-1, 0}, {0, -1}, {3, 0}, {0, 4}, {8, 0}, {0, 8}, {9, 0}, {16, 0}, {MAX, 0}, {0, MAX}, {MIN, 0},
+            {0, MIN}};
         for (int[] one : others) {
             Check.dueUnchanged("both(" + one[0] + ", " + one[1] + ")", -1, Check::busy, y -> y.both(one[0], one[1]));
         }
@@ -171,8 +172,8 @@ public final class RowTest {
         Check.sentence("NONE: none can come; others; -2 as walk(). ## Promise 12");
         Check.dueOutcome(new FarStore(), 255, 0, "");
         Check.dueOutcome(new FarStore(), 0, 15, "");
-        int[][] others = {{-1, 0}, {256, 0}, {0, -1}, {0, 16}, {256, 15}, {-256, 15}, {512, 0}, {0, 32}, {MAX, 0}, {MIN, 0}, {0, MAX},
-            {0, MIN}};
+        int[][] others = {{-1, 0}, {256, 0}, {0, -1}, {0, 16}, {256, 15}, {-256, 15}, {512, 0}, {0, 32}, {MAX, 0}, {MIN, 0},
+            {0, MAX}, {0, MIN}};
         for (int[] one : others) {
             Check.due("outcome of others", -1, new FarStore().outcome(one[0], one[1]));
             Check.dueUnchanged("outcome(" + one[0] + ", " + one[1] + ")", -1, Check::busy, x -> x.outcome(one[0], one[1]));

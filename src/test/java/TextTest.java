@@ -3,6 +3,7 @@ public final class TextTest {
     private static final String SEVEN = "wait;".repeat(7);
 
     public static void main(String[] args) {
+        wordsOfHosts();
         lengths();
         blanks();
         letters();
@@ -25,6 +26,21 @@ public final class TextTest {
         largeNumbers();
         eighth();
         Check.finish();
+    }
+
+    private static void wordsOfHosts() {
+        Check.sentence("HOSTS 0, 1. WORDS 0, 1 are in host 0, 2, 3 in host 1");
+        for (int w = 0; w < 4; w++) {
+            int owner = w / 2;
+            Texts.dueGood(owner, "set " + w + " 1;", 1);
+            Texts.dueFault(1 - owner, "set " + w + " 1;", 2, 4);
+            Texts.dueGood(1 - owner, "put " + w + " 1;", 1);
+            Texts.dueFault(owner, "put " + w + " 1;", 2, 4);
+        }
+        for (int host = 0; host < 2; host++) {
+            Texts.dueFault(host, "set 4 1;", 2, 4);
+            Texts.dueFault(host, "put 4 1;", 2, 4);
+        }
     }
 
     private static void lengths() {

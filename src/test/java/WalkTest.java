@@ -15,6 +15,8 @@ public final class WalkTest {
             goodEnds(side);
             brokenEnds(side);
         }
+        oneStepEach();
+        endsBySort();
         bothBroken();
         atMost12000();
         states();
@@ -121,6 +123,29 @@ public final class WalkTest {
         Check.dueWalk(x, "broken", 6, 1, 0, 1, 3);
         x.word(side.far, 0, 7);
         Check.dueWalk(x, "nothing broken again", 7, 2, 2, 0, 3);
+    }
+
+    private static void oneStepEach() {
+        Check.sentence("(a host's STATEMENT, a WISH that is DONE, a FALL: one each)");
+        FarStore x = new FarStore();
+        x.falls(true);
+        Check.due("ends(3) of a fall", 1, x.ends(3));
+        Check.due("program(1)", 1, Check.tell(x, 1, "if 0 0 7;"));
+        Check.due("ends(3) of an if and a fall", 2, x.ends(3));
+        Check.due("program(1)", 1, Check.tell(x, 1, "swap 0 0 1 0;"));
+        Check.due("ends(3) of a swap, its wish and a fall", 3, x.ends(3));
+        x.falls(false);
+        Check.due("ends(3) of a swap and its wish", 2, x.ends(3));
+    }
+
+    private static void endsBySort() {
+        Check.sentence("ENDS (what 0), GOOD ones (1), those in which something is BROKEN (2), the most STEPS of a STATE (3).");
+        FarStore x = Check.pair("put 2 1;put 2 1;put 2 1;", "");
+        x.falls(true);
+        Check.due("ends(0)", 11, x.ends(0));
+        Check.due("ends(1)", 1, x.ends(1));
+        Check.due("ends(2)", 5, x.ends(2));
+        Check.due("ends(3)", 7, x.ends(3));
     }
 
     private static void bothBroken() {
