@@ -1,3 +1,4 @@
+import java.util.Arrays;
 import java.util.List;
 import java.util.function.Supplier;
 
@@ -38,6 +39,14 @@ final class Large {
         return x;
     }
 
+    /** Host 0's fence ahead of 1 bars both(6, 7); with the one ahead of 0, which bars nothing, there are 12,085 states. */
+    static FarStore untoldAheadOfTheFirst() {
+        FarStore x = falling("get 2 1;swap 3 0 3 1;load 1 1;add 3 2 0;put 2 3;load 0 1;",
+            "get 1 0;add 0 2 0;put 1 2;set 3 0;get 1 1;get 0 1;get 0 1;");
+        x.word(2, 0, 6);
+        return x;
+    }
+
     /** Host 0's fence ahead of 3 bars both(6, 6); with host 1's ahead of 5 there are more than 12,000 states, with no other. */
     static FarStore untoldBehindBarring() {
         FarStore x = falling("set 1 2;get 3 1;get 2 0;put 2 1;set 1 2;put 3 2;",
@@ -59,8 +68,8 @@ final class Large {
 
     /** These, and four more: with more than 12,000 states, 12,000, 12,001, and some 9,000. */
     static List<Supplier<FarStore>> all() {
-        return List.of(Large::justTold, Large::justUntold, Large::untoldWithFence, Large::untoldAheadOfBarring,
-            Large::untoldBehindBarring, Large::fencesJustTold, Large::fencesJustUntold,
+        return Arrays.asList(Large::justTold, Large::justUntold, Large::untoldWithFence, Large::untoldAheadOfBarring,
+            Large::untoldAheadOfTheFirst, Large::untoldBehindBarring, Large::fencesJustTold, Large::fencesJustUntold,
             () -> falling("get 2 0;get 2 1;put 2 1;set 0 1;set 0 2;", "get 0 0;get 0 1;put 0 1;set 2 1;set 2 2;"),
             () -> falling("set 1 0;get 2 0;swap 3 0 1 0;put 2 2;get 2 1;get 2 0;add 3 2 1;",
                 "get 1 1;add 0 1 1;get 0 0;swap 0 0 2 0;add 1 3 1;set 2 1;"),

@@ -253,6 +253,10 @@ public final class MissingTest {
         Check.due("missing(true, 0, 0) without falls", -1, fenced.missing(true, 0, 0));
         // The fence ahead of 3 would bar it, but with the one ahead of 2 there are more than 12,000 states.
         Check.due("missing(false, 6, 6) behind an untold one", -2, Large.untoldAheadOfBarring().missing(false, 6, 6));
+        FarStore first = Large.untoldAheadOfTheFirst();
+        Check.due("missing(false, 6, 7) behind an untold one ahead of 0", -2, first.missing(false, 6, 7));
+        first.falls(false);
+        Check.due("missing(false, 6, 7) without falls", 1, first.missing(false, 6, 7));
     }
 
     private static void notNeeded() {
