@@ -1,27 +1,21 @@
-import java.io.IOException;
 import java.lang.reflect.Constructor;
 import java.lang.reflect.Field;
 import java.lang.reflect.Method;
 import java.lang.reflect.Modifier;
-import java.nio.charset.StandardCharsets;
-import java.nio.file.Files;
-import java.nio.file.Path;
 import java.util.Set;
 import java.util.TreeSet;
-import java.util.regex.Pattern;
 
-/** The public face of the document, and those rules of the language that a look at class and text can tell. */
+/** The public face of the document, and that nothing else can be seen from outside. */
 public final class FaceTest {
     private static final Set<String> FACE = Set.of("int feed(int, int, int, int, int)", "int end(int)", "int program(int)",
         "int fault(int)", "boolean word(int, int, int)", "void falls(boolean)", "int walk()", "int ends(int)",
         "int both(int, int)", "int outcome(int, int)", "int step(int)", "int missing(boolean, int, int)",
         "int statement(int, int, int)", "int about(int)");
 
-    public static void main(String[] args) throws IOException {
+    public static void main(String[] args) {
         methods();
         otherMembers();
         insideClasses();
-        text();
         Check.finish();
     }
 
@@ -74,23 +68,6 @@ public final class FaceTest {
             int modifiers = one.getModifiers();
             Check.due(one + " is static", true, Modifier.isStatic(modifiers));
             Check.due(one + " is not public", false, Modifier.isPublic(modifiers) || Modifier.isProtected(modifiers));
-            for (Field field : one.getDeclaredFields()) {
-                boolean isFine = !Modifier.isStatic(field.getModifiers()) || Modifier.isFinal(field.getModifiers());
-                Check.due(field + " is no static state", true, isFine);
-            }
         }
-    }
-
-    private static void text() throws IOException {
-        String text = Files.readString(Path.of("src/main/java/FarStore.java"), StandardCharsets.UTF_8);
-        String[] barred = {"\\bthrow\\b", "\\btry\\b", "\\bcatch\\b", "\\bsynchronized\\b", "\\bassert\\b", "->", "::",
-            "\\bpackage\\b", "Exact\\(", "\\bSystem\\.(?!arraycopy)", "\\bhashCode\\b", "\\bRandom\\b"};
-        for (String one : barred) {
-            Check.due(one + " stands in the program", false, Pattern.compile(one).matcher(withoutComments(text)).find());
-        }
-    }
-
-    private static String withoutComments(String text) {
-        return text.replaceAll("(?s)/\\*.*?\\*/", "").replaceAll("//[^\n]*", "");
     }
 }
